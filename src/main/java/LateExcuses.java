@@ -264,22 +264,18 @@ public final class LateExcuses {
     }
 
     /**
-     * The bits of a float that is 0 or of the size of a mean or trust (1/128 to 100). Only
-     * doubling and halving bring it to 24 bits before the point, and these lose nothing.
+     * The bits of a float that is 0 or of the size of a mean or trust (1/128 to 100). Doubling
+     * alone brings its 24 digits ahead of the point, which loses none of them.
      */
     private static int bitsOf(float value) {
-        float digits = value < 0f ? -value : value;
-        if (!(digits > 0f)) {
+        if (value == 0f) {
             return 0;
         }
+        float digits = value < 0f ? -value : value;
         int exponent = 127 + 23;
         for (int i = 0; i < 150 && digits < 8388608f; i++) {
             digits = digits * 2f;
             exponent--;
-        }
-        for (int i = 0; i < 150 && digits >= 16777216f; i++) {
-            digits = digits / 2f;
-            exponent++;
         }
         int bits = (exponent << 23) + ((int) digits - 8388608);
         return value < 0f ? bits | (1 << 31) : bits;

@@ -478,6 +478,18 @@ public final class PromisesTest {
         due("8 third", x.nextPane(7), 199);
         due("8 behind all", x.nextPane(199), NONE);
         due("8 a pane without times", x.nextPane(700), NONE);
+
+        x = court(1, 100, 1);
+        for (int id = 0; id < 64; id++) {
+            x.event(id, 99 - id, 0, id, 0);
+        }
+        due("8 first of 64 panes", x.nextPane(-1), 36);
+        for (int pane = 36; pane < 99; pane++) {
+            due("8 of 64 panes", x.nextPane(pane), pane + 1);
+            due("8 events of pane " + pane, x.paneOf(pane, 1), 1);
+            due("8 sum of pane " + pane, x.paneOf(pane, 2), 99 - pane);
+        }
+        due("8 behind 64 panes", x.nextPane(99), NONE);
     }
 
     private static void promise9WordAt() {
@@ -525,6 +537,9 @@ public final class PromisesTest {
         due("9 taken back", x.wordAt(39, 1), 40);
         due("9 so many", x.count(9), 2);
         due("9 kept", x.count(7), 40);
+        x.undo();
+        due("9 the dropped ones are back", x.wordAt(0, 1), 1);
+        due("9 the latest one, too", x.wordAt(39, 3), 40);
     }
 
     private static void promise10EventOf() {
@@ -750,6 +765,12 @@ public final class PromisesTest {
         x.set(0, 5);
         due("17 set", x.undo(), 0);
         due("17 first value", x.count(20), 10);
+        x.set(1, 7);
+        x.set(2, 8);
+        due("17 grace", x.undo(), 1);
+        due("17 grace", x.count(22), 10);
+        due("17 lag", x.undo(), 0);
+        due("17 lag", x.count(21), 5);
         x = court(5, 0, 2);
         x.event(0, 1, 0, 4, 0);
         x.event(1, 5, 0, 5, 0);
@@ -780,6 +801,19 @@ public final class PromisesTest {
         due("17 illness is not used", x.judge(2, 1, 2), 1);
         due("17 no such event", x.eventOf(2, 0), NONE);
         due("17 empty", x.undo(), NOT_POSSIBLE);
+        due("17 panes", x.nextPane(0), 1);
+        x.event(9, 10, 0, 6, 0);
+        due("17 told", x.count(8), 2);
+        due("17 word", x.wordAt(1, 1), 1);
+        x.undo();
+        due("17 told", x.count(8), 1);
+        x.event(10, 15, 0, 7, 0);
+        x.event(11, 20, 0, 8, 0);
+        due("17 another word", x.wordAt(2, 1), 3);
+        x.undo();
+        x.undo();
+        due("17 panes", x.nextPane(1), NONE);
+        due("17 first word", x.wordAt(0, 3), 4);
         due("17 goes on", x.event(2, 2, 1, 6, 2), 1);
         due("17 one state", x.count(12), 1);
         x.set(7, 7);
