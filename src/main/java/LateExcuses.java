@@ -964,7 +964,7 @@ public final class LateExcuses {
         Table(int rows, int columns) {
             this.rows = Math.max(0, rows);
             this.columns = Math.max(0, columns);
-            cells = new int[this.rows * this.columns];
+            cells = new int[Math.max(0, this.rows * this.columns)];
         }
 
         void copyFrom(Table other) {
@@ -978,7 +978,7 @@ public final class LateExcuses {
                 return 0;
             }
             int cell = row * columns + column;
-            return cell < cells.length ? cells[cell] : 0;
+            return cell >= 0 && cell < cells.length ? cells[cell] : 0;
         }
 
         void put(int row, int column, int value) {
@@ -986,16 +986,16 @@ public final class LateExcuses {
                 return;
             }
             int cell = row * columns + column;
-            if (cell < cells.length) {
+            if (cell >= 0 && cell < cells.length) {
                 cells[cell] = value;
             }
         }
 
         /** Makes room for a row of zeros; the rows from there on go one down, the last is lost. */
         void openRow(int row) {
-            if (row >= 0 && row < rows) {
-                int start = row * columns;
-                int next = start + columns;
+            int start = row * columns;
+            int next = start + columns;
+            if (row >= 0 && row < rows && start >= 0 && next >= start && next <= cells.length) {
                 System.arraycopy(cells, start, cells, next, cells.length - next);
                 for (int column = 0; column < columns; column++) {
                     put(row, column, 0);
@@ -1004,7 +1004,7 @@ public final class LateExcuses {
         }
 
         void dropFirstRow() {
-            if (rows > 0) {
+            if (columns <= cells.length) {
                 System.arraycopy(cells, columns, cells, 0, cells.length - columns);
             }
         }

@@ -1,9 +1,48 @@
+import java.lang.reflect.Constructor;
+import java.lang.reflect.Field;
+import java.lang.reflect.Member;
+import java.lang.reflect.Method;
+import java.lang.reflect.Modifier;
+import java.util.ArrayList;
+import java.util.List;
+
 /** The public face, Promise 1, and what the terms say of a new object. */
 public final class FaceTest {
-    private static final String FACE = "Promise 1, The constants";
+    private static final String FACE = "Promise 1, The public face";
+    private static final String CONSTANTS = "Promise 1, The constants";
     private static final String NEW = "Promise 1";
 
-    public static void main(String[] args) {
+    private static final String[] MEMBERS = {
+        "public static final int INVALID_ARGUMENT = -1000001;",
+        "public static final int NOT_POSSIBLE = -1000002;",
+        "public static final int LIMIT_REACHED = -1000003;",
+        "public static final int NOT_FOUND = -1000004;",
+        "public LateExcuses();",
+        "public int set(int what, int value);",
+        "public int event(int id, int time, int key, int amount, int excuse);",
+        "public int move(int ticks);",
+        "public int paneOf(int pane, int what);",
+        "public int mean(int pane);",
+        "public int standing(int pane, int what);",
+        "public int nextPane(int pane);",
+        "public int wordAt(int index, int what);",
+        "public int eventOf(int id, int what);",
+        "public int judge(int time, int key, int excuse);",
+        "public int lateness(int time);",
+        "public int latestExcused(int key, int excuse);",
+        "public int filed(int cabinet, int place);",
+        "public int trust(int key);",
+        "public int count(int what);",
+        "public int undo();",
+        "public int type(int character);",
+        "public int clearText();",
+        "public int fault(int what);",
+        "public int play();",
+    };
+
+    public static void main(String[] args) throws IllegalAccessException {
+        classItself();
+        members();
         constants();
         withoutEvents();
         withoutWordsAndExcuses();
@@ -16,11 +55,59 @@ public final class FaceTest {
         Case.end();
     }
 
+    private static void classItself() {
+        Case whole = Case.of(FACE, "public final class LateExcuses {")
+            .equal(LateExcuses.class.getModifiers(), Modifier.PUBLIC | Modifier.FINAL);
+        // LANGUAGE.md, rule 1: the classes inside are private or package-visible, and static.
+        for (Class<?> inside : LateExcuses.class.getDeclaredClasses()) {
+            int shown = inside.getModifiers() & (Modifier.PUBLIC | Modifier.PROTECTED | Modifier.STATIC);
+            whole.equal(shown, Modifier.STATIC);
+        }
+    }
+
+    private static void members() throws IllegalAccessException {
+        List<String> found = foundMembers();
+        for (String member : MEMBERS) {
+            Case.of(FACE, member).equal(found.contains(withoutNames(member)) ? 1 : 0, 1);
+        }
+        // LANGUAGE.md, rule 1: no other member can be seen from outside.
+        Case.of(FACE, "public final class LateExcuses {").equal(found.size(), MEMBERS.length);
+    }
+
+    private static List<String> foundMembers() throws IllegalAccessException {
+        List<String> found = new ArrayList<>();
+        for (Field field : LateExcuses.class.getDeclaredFields()) {
+            if (canBeSeen(field)) {
+                String value = Modifier.isStatic(field.getModifiers()) ? " = " + field.get(null) : "";
+                found.add(field.toString().replace("LateExcuses.", "") + value + ";");
+            }
+        }
+        for (Constructor<?> constructor : LateExcuses.class.getDeclaredConstructors()) {
+            if (canBeSeen(constructor)) {
+                found.add(constructor.toString().replace(",", ", ") + ";");
+            }
+        }
+        for (Method method : LateExcuses.class.getDeclaredMethods()) {
+            if (canBeSeen(method)) {
+                found.add(method.toString().replace("LateExcuses.", "").replace(",", ", ") + ";");
+            }
+        }
+        return found;
+    }
+
+    private static boolean canBeSeen(Member member) {
+        return !Modifier.isPrivate(member.getModifiers()) && !member.isSynthetic();
+    }
+
+    private static String withoutNames(String member) {
+        return member.replaceAll("int \\w+(?=[,)])", "int");
+    }
+
     private static void constants() {
-        Case.of(FACE, "`INVALID_ARGUMENT = -1000001`").equal(LateExcuses.INVALID_ARGUMENT, -1000001);
-        Case.of(FACE, "`NOT_POSSIBLE = -1000002`").equal(LateExcuses.NOT_POSSIBLE, -1000002);
-        Case.of(FACE, "`LIMIT_REACHED = -1000003`").equal(LateExcuses.LIMIT_REACHED, -1000003);
-        Case.of(FACE, "`NOT_FOUND = -1000004`").equal(LateExcuses.NOT_FOUND, -1000004);
+        Case.of(CONSTANTS, "`INVALID_ARGUMENT = -1000001`").equal(LateExcuses.INVALID_ARGUMENT, -1000001);
+        Case.of(CONSTANTS, "`NOT_POSSIBLE = -1000002`").equal(LateExcuses.NOT_POSSIBLE, -1000002);
+        Case.of(CONSTANTS, "`LIMIT_REACHED = -1000003`").equal(LateExcuses.LIMIT_REACHED, -1000003);
+        Case.of(CONSTANTS, "`NOT_FOUND = -1000004`").equal(LateExcuses.NOT_FOUND, -1000004);
     }
 
     private static void withoutEvents() {
