@@ -75,10 +75,10 @@ public final class ReadmeTest {
         return found;
     }
 
-    /** What the commands print, on both of their ways; they stop at the first one that fails. */
+    /** What the commands print, but for errors; they stop at the first one that fails. */
     private static String output(String commands, Path folder) throws IOException, InterruptedException {
         Process process = new ProcessBuilder("sh", "-e", "-c", commands).directory(folder.toFile())
-            .redirectErrorStream(true).start();
+            .redirectError(ProcessBuilder.Redirect.INHERIT).start();
         String printed = new String(process.getInputStream().readAllBytes());
         equal("the exit code of " + commands, process.waitFor(), 0);
         return printed;
